@@ -3,6 +3,15 @@ final class Checks {
     private int wrong = 0;
     private int seen = 0;
 
+    /** A new object at whose gauge g these have been read. */
+    static MastLog logged(int g, int... told) {
+        MastLog log = new MastLog();
+        for (int v : told) {
+            log.read(g, v);
+        }
+        return log;
+    }
+
     void due(String call, int got, int want) {
         seen++;
         if (got != want) {

@@ -29,14 +29,6 @@ public final class LogTest {
         checks.finish("LogTest");
     }
 
-    private static MastLog logged(int g, int... told) {
-        MastLog log = new MastLog();
-        for (int v : told) {
-            log.read(g, v);
-        }
-        return log;
-    }
-
     private static void newObject() {
         MastLog log = new MastLog();
         for (int g = 0; g < 2; g++) {
@@ -57,7 +49,7 @@ public final class LogTest {
     }
 
     private static void objectsAreApart() {
-        MastLog one = logged(0, 5, 6);
+        MastLog one = Checks.logged(0, 5, 6);
         one.mark(0, 5);
         one.order(0);
         one.key(0, 3);
@@ -84,7 +76,7 @@ public final class LogTest {
     }
 
     private static void readRefuses(int g) {
-        MastLog log = logged(g, 3);
+        MastLog log = Checks.logged(g, 3);
         for (int v : NOT_TOLD) {
             checks.due("read of " + v, log.read(g, v), NONE);
         }
@@ -101,7 +93,7 @@ public final class LogTest {
     }
 
     private static void highAndLow(int g) {
-        MastLog log = logged(g, GAP);
+        MastLog log = Checks.logged(g, GAP);
         checks.dueLook("a gap alone", log, g, 1, GAP, GAP);
         log.read(g, -4);
         checks.dueLook("the first number", log, g, 2, -4, -4);
@@ -147,7 +139,7 @@ public final class LogTest {
     }
 
     private static void openLimits(int g) {
-        MastLog log = logged(g, 131072, -131072);
+        MastLog log = Checks.logged(g, 131072, -131072);
         checks.due("no limits: alarm", log.look(g, 6), 0);
         log.limit(g, false, -8);
         log.read(g, 131072);
@@ -214,7 +206,7 @@ public final class LogTest {
     }
 
     private static void limitLeavesTheAlarm(int g) {
-        MastLog log = logged(g, 20);
+        MastLog log = Checks.logged(g, 20);
         log.limit(g, true, 10);
         checks.due("limit below what was read: alarm", log.look(g, 6), 0);
         log.read(g, 20);
@@ -225,7 +217,7 @@ public final class LogTest {
     }
 
     private static void moveForthAndBack(int g) {
-        MastLog log = logged(g, 1, GAP, 3, 4, 5);
+        MastLog log = Checks.logged(g, 1, GAP, 3, 4, 5);
         checks.due("move(1, 3)", log.move(g, 1, 3), true);
         checks.dueLog("move(1, 3)", log, g, 1, 3, 4, GAP, 5);
         checks.due("move(4, 0)", log.move(g, 4, 0), true);
@@ -249,7 +241,7 @@ public final class LogTest {
     }
 
     private static void moveRefuses(int g) {
-        MastLog log = logged(g, 1, 2, 3);
+        MastLog log = Checks.logged(g, 1, 2, 3);
         int[] noPlace = {-1, 3, 24, Integer.MIN_VALUE, Integer.MAX_VALUE};
         for (int i : noPlace) {
             checks.due("move from " + i, log.move(g, i, 1), false);
@@ -264,7 +256,7 @@ public final class LogTest {
     }
 
     private static void atRefuses(int g) {
-        MastLog log = logged(g, 5, GAP);
+        MastLog log = Checks.logged(g, 5, GAP);
         checks.due("at(1)", log.at(g, 1), GAP);
         int[] noPlace = {-1, 2, 24, 28, Integer.MIN_VALUE, Integer.MAX_VALUE};
         for (int i : noPlace) {
@@ -279,7 +271,7 @@ public final class LogTest {
     }
 
     private static void lookRefuses(int g) {
-        MastLog log = logged(g, 5);
+        MastLog log = Checks.logged(g, 5);
         int[] noWhat = {-1, 8, Integer.MIN_VALUE, Integer.MAX_VALUE};
         for (int what : noWhat) {
             checks.due("look for " + what, log.look(g, what), NONE);

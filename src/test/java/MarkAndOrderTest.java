@@ -18,14 +18,6 @@ public final class MarkAndOrderTest {
         checks.finish("MarkAndOrderTest");
     }
 
-    private static MastLog logged(int g, int... told) {
-        MastLog log = new MastLog();
-        for (int v : told) {
-            log.read(g, v);
-        }
-        return log;
-    }
-
     /** The marks from place 0 on, x for a set one. */
     private static void dueMarks(String when, MastLog log, String want) {
         for (int i = 0; i < want.length(); i++) {
@@ -49,7 +41,7 @@ public final class MarkAndOrderTest {
 
     private static void marksByEachHow(int g) {
         String[] want = {"x....", "xx...", "..x.x", ".xx.x", ".x...", "x.xxx"};
-        MastLog log = logged(g, -1, 0, 1, GAP, 131072);
+        MastLog log = Checks.logged(g, -1, 0, 1, GAP, 131072);
         log.key(g, 0);
         for (int how = 0; how < 6; how++) {
             checks.due("mark by " + how, log.mark(g, how), 5);
@@ -63,7 +55,7 @@ public final class MarkAndOrderTest {
     }
 
     private static void marksStay(int g) {
-        MastLog log = logged(g, 1, 2, 3);
+        MastLog log = Checks.logged(g, 1, 2, 3);
         log.key(g, 2);
         log.mark(g, 1);
         dueMarks("made", log, "xx.");
@@ -86,7 +78,7 @@ public final class MarkAndOrderTest {
     }
 
     private static void fewerMarksReplaceMore(int g) {
-        MastLog log = logged(g, 1, 2, 3);
+        MastLog log = Checks.logged(g, 1, 2, 3);
         log.mark(g, 5);
         dueMarks("three", log, "xxx");
         log.read(1 - g, 4);
@@ -98,17 +90,17 @@ public final class MarkAndOrderTest {
     }
 
     private static void ordersNumbersThenGaps(int g) {
-        MastLog log = logged(g, 3, GAP, -131072, 131072, GAP, 0, 3, -1);
+        MastLog log = Checks.logged(g, 3, GAP, -131072, 131072, GAP, 0, 3, -1);
         checks.due("order", log.order(g), 6);
         dueOrder("order", log, -131072, -1, 0, 3, 3, 131072, GAP, GAP);
         checks.dueLog("the log itself", log, g, 3, GAP, -131072, 131072, GAP, 0, 3, -1);
-        MastLog gaps = logged(g, GAP, GAP);
+        MastLog gaps = Checks.logged(g, GAP, GAP);
         checks.due("order of gaps", gaps.order(g), 0);
         dueOrder("order of gaps", gaps, GAP, GAP);
     }
 
     private static void orderStays(int g) {
-        MastLog log = logged(g, 2, GAP, 1);
+        MastLog log = Checks.logged(g, 2, GAP, 1);
         log.order(g);
         for (int none : NO_GAUGE) {
             checks.due("order of gauge " + none, log.order(none), NONE);
@@ -126,7 +118,7 @@ public final class MarkAndOrderTest {
     }
 
     private static void shorterOrderReplacesLonger(int g) {
-        MastLog log = logged(g, 5, 4, 3);
+        MastLog log = Checks.logged(g, 5, 4, 3);
         log.order(g);
         log.read(1 - g, GAP);
         checks.due("order of the other", log.order(1 - g), 0);

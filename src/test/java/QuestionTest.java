@@ -23,16 +23,8 @@ public final class QuestionTest {
         checks.finish("QuestionTest");
     }
 
-    private static MastLog logged(int g, int... told) {
-        MastLog log = new MastLog();
-        for (int v : told) {
-            log.read(g, v);
-        }
-        return log;
-    }
-
     private static void keyIsKept(int g) {
-        MastLog log = logged(g, 7, 8);
+        MastLog log = Checks.logged(g, 7, 8);
         int[] keys = {8, -131072, 131072, 0, GAP, 7};
         for (int v : keys) {
             checks.due("key " + v, log.key(g, v), true);
@@ -66,7 +58,7 @@ public final class QuestionTest {
     }
 
     private static void askAllWays(int g) {
-        MastLog log = logged(g, 1, 2, GAP, 2, 3, 1, 1);
+        MastLog log = Checks.logged(g, 1, 2, GAP, 2, 3, 1, 1);
         log.key(g, 2);
         dueWays(log, g, 0, 3, 4, 1, 2, 2, 3, 1, 4, 0, 4);
         dueWays(log, g, 1, 5, 2, 2, 2, 8, 5, 2, 2, 0, 4);
@@ -78,7 +70,7 @@ public final class QuestionTest {
     }
 
     private static void askByAGap(int g) {
-        MastLog log = logged(g, 4, 4, 5);
+        MastLog log = Checks.logged(g, 4, 4, 5);
         dueWays(log, g, 0, 0, 3, 0, 0, -3, 0, 0, 3, NONE, 2);
         dueWays(log, g, 1, 0, 3, 0, 0, -3, 1, 0, 2, NONE, 2);
         dueWays(log, g, 2, 0, 3, 0, 0, -3, 1, 0, 2, NONE, 2);
@@ -88,7 +80,7 @@ public final class QuestionTest {
     }
 
     private static void askOfGapsAlone(int g) {
-        MastLog log = logged(g, GAP, GAP);
+        MastLog log = Checks.logged(g, GAP, GAP);
         int[] keys = {GAP, -131072, 0};
         for (int v : keys) {
             log.key(g, v);
@@ -100,7 +92,7 @@ public final class QuestionTest {
     }
 
     private static void askRefuses(int g) {
-        MastLog log = logged(g, 1, 2, 3);
+        MastLog log = Checks.logged(g, 1, 2, 3);
         log.key(g, 2);
         for (int how : NO_HOW) {
             for (int way = 0; way < 10; way++) {
@@ -124,7 +116,7 @@ public final class QuestionTest {
     }
 
     private static void standsAllHows(int g) {
-        MastLog log = logged(g, -131072, -131071, GAP, GAP, 131072, -131072);
+        MastLog log = Checks.logged(g, -131072, -131071, GAP, GAP, 131072, -131072);
         dueStands(log, g, 0, 1, "015");
         dueStands(log, g, 1, 0, "235");
         dueStands(log, g, 0, 5, "134");
@@ -138,7 +130,7 @@ public final class QuestionTest {
     }
 
     private static void standsRefuses(int g) {
-        MastLog log = logged(g, 1, 1, GAP);
+        MastLog log = Checks.logged(g, 1, 1, GAP);
         int[] noPlace = {-1, 3, 24, Integer.MIN_VALUE, Integer.MAX_VALUE};
         for (int i : noPlace) {
             dueStands(log, g, i, 0, "");
@@ -159,7 +151,7 @@ public final class QuestionTest {
         int[] warmth = {5, 5, 6, GAP, 5, GAP, -131072, 131072};
         int[] pressure = {5, 6, 5, 5, GAP, GAP, -131072, 131071};
         int[] want = {1, 3, 2, 4, 2, 6};
-        MastLog log = logged(0, warmth);
+        MastLog log = Checks.logged(0, warmth);
         for (int v : pressure) {
             log.read(1, v);
         }
@@ -169,7 +161,7 @@ public final class QuestionTest {
     }
 
     private static void meetTakesThePlacesOfBoth() {
-        MastLog log = logged(0, 1, 2, 3);
+        MastLog log = Checks.logged(0, 1, 2, 3);
         checks.due("pressure empty", log.meet(5), 0);
         log.read(1, 2);
         checks.due("one place: below", log.meet(0), 1);
@@ -185,7 +177,7 @@ public final class QuestionTest {
     }
 
     private static void meetRefuses() {
-        MastLog log = logged(0, 1);
+        MastLog log = Checks.logged(0, 1);
         log.read(1, 1);
         for (int how : NO_HOW) {
             checks.due("meet by how " + how, log.meet(how), NONE);
