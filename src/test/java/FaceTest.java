@@ -22,7 +22,7 @@ public final class FaceTest {
         "public int MastLog.ordered(int)",
         "public int MastLog.read(int,int)",
     };
-    private static final Checks checks = new Checks();
+    private static final Checks checks = new Checks("FaceTest");
 
     public static void main(String[] args) {
         int classModifiers = MastLog.class.getModifiers();
@@ -36,7 +36,9 @@ public final class FaceTest {
             checks.due(inside + " is not public or protected",
                 Modifier.isPublic(modifiers) || Modifier.isProtected(modifiers), false);
         }
-        checks.finish("FaceTest");
+        if (!checks.finish()) {
+            System.exit(1);
+        }
     }
 
     private static void constructors() {

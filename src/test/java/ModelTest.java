@@ -4,7 +4,7 @@ import java.util.Random;
 public final class ModelTest {
     private static final int RUNS = 4000;
     private static final int CALLS = 512;
-    private static final Checks checks = new Checks();
+    private static final Checks checks = new Checks("ModelTest");
     private static Random random;
     private static int spread;
 
@@ -18,7 +18,9 @@ public final class ModelTest {
                 oneCall("run " + run + ", call " + call + ": ", log, model);
             }
         }
-        checks.finish("ModelTest");
+        if (!checks.finish()) {
+            System.exit(1);
+        }
     }
 
     private static int wild() {
