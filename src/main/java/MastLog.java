@@ -24,9 +24,10 @@ public final class MastLog {
 
     private final Gauge warmth;
     private final Gauge pressure;
+    // A log never has more readings than these rows have cells; their indices are looked at all the same.
     private final boolean[] marks;
-    private int markCount;
     private final int[] sorted;
+    private int markCount;
     private int sortedCount;
 
     public MastLog() {
@@ -100,7 +101,7 @@ public final class MastLog {
         if (gauge == null || !isHow(how)) {
             return NONE;
         }
-        for (int i = 0; i < gauge.count; i++) {
+        for (int i = 0; i < gauge.count && i < marks.length; i++) {
             marks[i] = gauge.holds(i, how);
         }
         markCount = gauge.count;
@@ -108,7 +109,7 @@ public final class MastLog {
     }
 
     public boolean marked(int i) {
-        return i >= 0 && i < markCount && marks[i];
+        return i >= 0 && i < markCount && i < marks.length && marks[i];
     }
 
     public int meet(int how) {
@@ -137,7 +138,7 @@ public final class MastLog {
                 numbers++;
             }
         }
-        for (int i = numbers; i < gauge.count; i++) {
+        for (int i = numbers; i < gauge.count && i < sorted.length; i++) {
             sorted[i] = GAP;
         }
         sortedCount = gauge.count;
@@ -145,7 +146,7 @@ public final class MastLog {
     }
 
     public int ordered(int i) {
-        return i >= 0 && i < sortedCount ? sorted[i] : NONE;
+        return i >= 0 && i < sortedCount && i < sorted.length ? sorted[i] : NONE;
     }
 
     public int at(int g, int i) {
@@ -183,6 +184,9 @@ public final class MastLog {
 
     /** Puts a number where it belongs among the first ones of the order, how many of which stand already. */
     private void sortIn(int told, int numbers) {
+        if (numbers < 0 || numbers >= sorted.length) {
+            return;
+        }
         int place = numbers;
         while (place > 0 && sorted[place - 1] > told) {
             sorted[place] = sorted[place - 1];

@@ -5,7 +5,8 @@ import java.util.TreeMap;
 
 /**
  * Runs the cases of a test: its static methods that take a Checks, and those that take a Checks and a gauge, which
- * run for both gauges. A case bears the promise (or "terms") and what it is about in its name.
+ * run for both gauges. A case bears the promise (or "terms", a rule of LANGUAGE.md, "readme") and what it is about in
+ * its name.
  */
 final class Cases {
     private Cases() {
@@ -15,7 +16,7 @@ final class Cases {
     static void run(Class<?> test) {
         Map<String, Method> cases = new TreeMap<>();
         for (Method method : test.getDeclaredMethods()) {
-            if (method.getName().matches("(promise[0-9]{2}|terms)_.*")) {
+            if (method.getName().matches("(promise[0-9]{2}|terms|rule[0-9]{2}|readme)_.*")) {
                 cases.put(method.getName(), method);
             }
         }
